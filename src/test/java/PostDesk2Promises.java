@@ -262,6 +262,10 @@ public final class PostDesk2Promises {
 
     private static void promise6CallTakesWhatIsCollected() {
         PostDesk2 desk = deskWithOneOfEach();
+        for (int call = 0; call < 20; call++) {
+            long want = call < 10 ? 1 : PostDesk2.EMPTY;
+            due("6: call(" + call + ") with nothing collected", desk.call(call, call % 10 * 1000 + 1, 1), want);
+        }
         desk.collect(4);
         desk.collect(-7);
         due("6: the digest goes by order", desk.call(3, 3001, 1), 31 * 4 - 7 + 1);
