@@ -223,8 +223,8 @@ public final class PostDesk2Promises {
     }
 
     private static void promise6CallGoesToItsPart() {
-        PostDesk2 desk = deskWithOneOfEach();
         for (int call = 0; call < 20; call++) {
+            PostDesk2 desk = deskWithOneOfEach();
             for (int kind = 0; kind < 10; kind++) {
                 desk.collect(2);
                 long want = call % 10 == kind ? 12 : PostDesk2.UNKNOWN;
@@ -235,6 +235,7 @@ public final class PostDesk2Promises {
                 }
             }
         }
+        PostDesk2 desk = deskWithOneOfEach();
         desk.answer(2, Long.MAX_VALUE);
         desk.collect(Long.MAX_VALUE);
         due("6: answers wrap", desk.call(2, 2001, Long.MAX_VALUE), Long.MAX_VALUE - 2);
@@ -413,6 +414,21 @@ public final class PostDesk2Promises {
     }
 
     private static void promise10IsThere() {
+        // A desk for each 400 numbers: what it answers behind its 512th call is free.
+        for (int from = -12000; from < 12000; from += 400) {
+            PostDesk2 desk = deskWithTheFirstAndThird();
+            for (int number = from; number < from + 400; number++) {
+                int count = number % 1000;
+                boolean want = number > 0 && number < 10000 && (count == 1 || count == 3);
+                due("10: isThere(" + number + ")", desk.isThere(number), want);
+            }
+        }
+        PostDesk2 desk = deskWithTheFirstAndThird();
+        due("10: the greatest", desk.isThere(Integer.MAX_VALUE), false);
+        due("10: the least", desk.isThere(Integer.MIN_VALUE), false);
+    }
+
+    private static PostDesk2 deskWithTheFirstAndThird() {
         PostDesk2 desk = new PostDesk2();
         for (int kind = 0; kind < 10; kind++) {
             desk.make(kind);
@@ -420,13 +436,7 @@ public final class PostDesk2Promises {
             desk.make(kind);
             desk.drop(kind * 1000 + 2);
         }
-        for (int number = -12000; number <= 12000; number++) {
-            int count = number % 1000;
-            boolean want = number > 0 && number < 10000 && (count == 1 || count == 3);
-            due("10: isThere(" + number + ")", desk.isThere(number), want);
-        }
-        due("10: the greatest", desk.isThere(Integer.MAX_VALUE), false);
-        due("10: the least", desk.isThere(Integer.MIN_VALUE), false);
+        return desk;
     }
 
     private static void promise11Again() {
