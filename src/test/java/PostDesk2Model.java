@@ -5,8 +5,9 @@ import java.util.Random;
 import java.util.Set;
 
 /**
- * Random runs of 512 calls (the seeds are fixed), beside a model that does the document's words one by one: it keeps
- * every number collected, its parts throw, and its second desk is a new model on which all acts are done again.
+ * Runs beside a model that does the document's words one by one: it keeps every number collected, its parts throw, and
+ * its second desk is a new model on which all acts are done again. The runs are random ones of 512 calls (the seeds are
+ * fixed), and every run of a few acts out of a table, with all that can be asked of the desk behind it.
  */
 public final class PostDesk2Model {
     private static final int RUNS = 400;
@@ -283,8 +284,89 @@ public final class PostDesk2Model {
         return null;
     }
 
-    public static void main(String[] args) {
+    /**
+     * Acts on the first things of two kinds, with
+     * every outcome that an act can have but ROOM, which wants too many.
+     */
+    private static final Act[] TABLE = {
+        new Act(0, 0, 0, 5), new Act(0, 0, 0, -6), new Act(1, 0, 0, 40), new Act(1, 10, 0, 50), new Act(1, 20, 0, 60),
+        new Act(2, 0, 1, 0), new Act(2, 10, 3, 0), new Act(2, 10, 0, 0), new Act(2, 10, 4, 0), new Act(3, 0, 0, 0),
+        new Act(3, 1, 0, 0), new Act(3, 10, 0, 0), new Act(6, 0, 1, 0), new Act(6, 0, 2, 0), new Act(4, 0, 1, 7),
+        new Act(4, 10, 1, 7), new Act(4, 10, 2, 7), new Act(4, 1, 1001, 7), new Act(4, 1, 1, 7), new Act(4, 20, 1, 7),
+        new Act(9, 10, 1, 7), new Act(10, 0, 1, 7)
+    };
+    private static final int ACTS_OF_A_SHORT_RUN = 4;
+
+    /** All that can be asked of a desk on which nothing but acts of the table was done. */
+    private static List<Act> questions() {
+        List<Act> questions = new ArrayList<>();
+        for (int what = -1; what <= 8; what++) {
+            questions.add(new Act(5, what, 0, 0));
+        }
+        for (int kind = -1; kind <= 10; kind++) {
+            questions.add(new Act(7, kind, 0, 0));
+        }
+        for (int number : new int[] {0, 1, 2, 3, 4, 5, 1000, 1001, 1002, 1003, 1004}) {
+            questions.add(new Act(8, 0, number, 0));
+        }
+        for (int call : new int[] {-1, 0, 1, 10, 11, 20}) {
+            for (int number : new int[] {1, 2, 3, 1001, 1002}) {
+                questions.add(new Act(9, call, number, 3));
+                questions.add(new Act(10, call, number, 3));
+            }
+        }
+        return questions;
+    }
+
+    /** The run of that many acts of the table, behind a first thing made: in the base of the table's length. */
+    private static List<Act> shortRun(int which) {
+        List<Act> run = new ArrayList<>();
+        run.add(new Act(3, 0, 0, 0));
+        for (int i = 0; i < ACTS_OF_A_SHORT_RUN; i++) {
+            run.add(TABLE[which % TABLE.length]);
+            which /= TABLE.length;
+        }
+        return run;
+    }
+
+    /** What is wrong in a run with these questions behind it, or null. */
+    private static String fault(List<Act> run, List<Act> questions) {
+        Model model = new Model();
+        PostDesk2 desk = new PostDesk2();
+        List<Act> all = new ArrayList<>(run);
+        all.addAll(questions);
+        for (Act act : all) {
+            long want = model.done(act);
+            long got = done(desk, act);
+            if (got != want) {
+                return act + " behind " + run + " answered " + got + ", due is " + want;
+            }
+        }
+        return null;
+    }
+
+    private static int wrongShortRuns() {
+        List<Act> questions = questions();
+        int runs = 1;
+        for (int i = 0; i < ACTS_OF_A_SHORT_RUN; i++) {
+            runs *= TABLE.length;
+        }
         int wrong = 0;
+        for (int which = 0; which < runs; which++) {
+            String fault = fault(shortRun(which), questions);
+            if (fault != null) {
+                wrong++;
+                // One broken sentence may spoil most of the runs: a few tell enough.
+                if (wrong <= 10) {
+                    System.out.println(fault);
+                }
+            }
+        }
+        return wrong;
+    }
+
+    public static void main(String[] args) {
+        int wrong = wrongShortRuns();
         for (int seed = 1; seed <= RUNS; seed++) {
             String fault = run(seed);
             if (fault != null) {

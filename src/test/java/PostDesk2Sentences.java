@@ -1,12 +1,15 @@
 import java.math.BigInteger;
 import java.util.Arrays;
+import java.util.HashSet;
+import java.util.Set;
 
 /**
- * A test of its own for each sentence of the document that names a boundary case: the last input inside an edge, the
- * first one outside it on each side, and the smallest and the largest where an argument may be any. What is due is
- * worked out in BigInteger and cut to 64 bits at the end, so that no wrap-around of the class is trusted here.
+ * A test of its own for each sentence of the document, called by it. Where the sentence names an edge: the last input
+ * inside it, the first one outside it on each side, and the smallest and the largest where an argument may be any.
+ * What is due is worked out in BigInteger and cut to 64 bits at the end, so that no wrap-around of the class is
+ * trusted here.
  */
-public final class PostDesk2Edges {
+public final class PostDesk2Sentences {
     private static final int LEAST = Integer.MIN_VALUE;
     private static final int MOST = Integer.MAX_VALUE;
     private static final long LONG_LEAST = Long.MIN_VALUE;
@@ -114,127 +117,142 @@ public final class PostDesk2Edges {
     }
 
     private static void whatItIs() {
-        test("What it is: at most 512 calls: answered", PostDesk2Edges::answeredUpTo512);
-        test("What it is: at most 512 calls: refused", PostDesk2Edges::refusedUpTo512);
-        test("What it is: at most 512 calls: failed", PostDesk2Edges::failedUpTo512);
-        test("What it is: at most 512 calls: collect", PostDesk2Edges::collectUpTo512);
-        test("What it is: at most 512 calls: make", PostDesk2Edges::makeUpTo512);
-        test("What it is: at most 512 calls: again and log behind 511 acts", PostDesk2Edges::secondDeskOf511Acts);
-        test("What it is: at most 512 calls: again and log alone", PostDesk2Edges::askedUpTo512);
+        test("What it is: things of ten kinds by numbers that come once", PostDesk2Sentences::numbersComeOnce);
+        test("What it is: calls that go to their part or are refused", PostDesk2Sentences::callsGoOrAreRefused);
+        test("What it is: collected for the next call", PostDesk2Sentences::collectedForTheNextCall);
+        test("What it is: failures of parts that are caught and told", PostDesk2Sentences::failuresAreCaughtAndTold);
+        test("What it is: the same acts done again on a second desk", PostDesk2Sentences::sameActsOnASecondDesk);
+        test("What it is: at most 512 calls: answered", PostDesk2Sentences::answeredUpTo512);
+        test("What it is: at most 512 calls: refused", PostDesk2Sentences::refusedUpTo512);
+        test("What it is: at most 512 calls: failed", PostDesk2Sentences::failedUpTo512);
+        test("What it is: at most 512 calls: collect", PostDesk2Sentences::collectUpTo512);
+        test("What it is: at most 512 calls: make", PostDesk2Sentences::makeUpTo512);
+        test("What it is: at most 512 calls: again and log behind 511 acts", PostDesk2Sentences::secondDeskOf511Acts);
+        test("What it is: at most 512 calls: again and log alone", PostDesk2Sentences::askedUpTo512);
     }
 
     private static void things() {
-        test("THINGS: a KIND 0 .. 9", PostDesk2Edges::kindsAre0To9);
-        test("THINGS: 1000 times the kind, and how many were made with it", PostDesk2Edges::numbersCountByKind);
-        test("THINGS: (1 .. 99)", PostDesk2Edges::numbersAre1To99);
-        test("THINGS: a number that was dropped never comes again", PostDesk2Edges::droppedNeverComesAgain);
+        test("THINGS: a KIND 0 .. 9", PostDesk2Sentences::kindsAre0To9);
+        test("THINGS: 1000 times the kind, and how many were made with it", PostDesk2Sentences::numbersCountByKind);
+        test("THINGS: (1 .. 99)", PostDesk2Sentences::numbersAre1To99);
+        test("THINGS: a number that was dropped never comes again", PostDesk2Sentences::droppedNeverComesAgain);
     }
 
     private static void calls() {
-        test("CALLS: 0 .. 19", PostDesk2Edges::callsAre0To19);
-        test("CALLS: the kind is the call modulo 10", PostDesk2Edges::callsAreForTheirKind);
-        test("CALLS: those from 10 on want something collected", PostDesk2Edges::callsFrom10OnWant);
+        test("CALLS: 0 .. 19", PostDesk2Sentences::callsAre0To19);
+        test("CALLS: the kind is the call modulo 10", PostDesk2Sentences::callsAreForTheirKind);
+        test("CALLS: those from 10 on want something collected", PostDesk2Sentences::callsFrom10OnWant);
     }
 
     private static void parts() {
-        test("PARTS: V is 0 at first", PostDesk2Edges::valueIsZeroAtFirst);
-        test("PARTS: V plus the argument wraps", PostDesk2Edges::valueAndArgumentWrap);
-        test("PARTS: plus the digest wraps", PostDesk2Edges::digestIsAddedAndWraps);
-        test("PARTS: the digest is 0 without anything", PostDesk2Edges::digestIsZeroWithoutAnything);
-        test("PARTS: the digest for each number, in order", PostDesk2Edges::digestGoesByOrder);
-        test("PARTS: the digest itself wraps", PostDesk2Edges::digestItselfWraps);
-        test("PARTS: it fails, by kind 1, 2, 3", PostDesk2Edges::partsFailByKind);
+        test("PARTS: each call has one", PostDesk2Sentences::eachCallHasItsPart);
+        test("PARTS: it ANSWERS V, plus the argument, plus the DIGEST", PostDesk2Sentences::partsAnswerTheSum);
+        test("PARTS: V is 0 at first", PostDesk2Sentences::valueIsZeroAtFirst);
+        test("PARTS: V plus the argument wraps", PostDesk2Sentences::valueAndArgumentWrap);
+        test("PARTS: plus the digest wraps", PostDesk2Sentences::digestIsAddedAndWraps);
+        test("PARTS: the digest is 0 without anything", PostDesk2Sentences::digestIsZeroWithoutAnything);
+        test("PARTS: the digest for each number, in order", PostDesk2Sentences::digestGoesByOrder);
+        test("PARTS: the digest itself wraps", PostDesk2Sentences::digestItselfWraps);
+        test("PARTS: it fails, by kind 1, 2, 3", PostDesk2Sentences::partsFailByKind);
     }
 
     private static void aCall() {
-        test("A CALL: OUTSIDE before all else", PostDesk2Edges::outsideGoesFirst);
-        test("A CALL: UNKNOWN, no such thing", PostDesk2Edges::unknownWithoutSuchThing);
-        test("A CALL: UNKNOWN, no longer there", PostDesk2Edges::unknownWhenDropped);
-        test("A CALL: UNKNOWN, of another kind", PostDesk2Edges::unknownOfAnotherKind);
-        test("A CALL: UNKNOWN before EMPTY", PostDesk2Edges::unknownBeforeEmpty);
-        test("A CALL: EMPTY, it wants something and nothing is collected", PostDesk2Edges::emptyWithNothingCollected);
-        test("A CALL: refused, it does not go to its part", PostDesk2Edges::refusedDoesNotGoToItsPart);
-        test("A CALL: refused, what is collected stays", PostDesk2Edges::refusedLeavesWhatIsCollected);
-        test("A CALL: answered, what was collected is gone", PostDesk2Edges::answeredTakesWhatWasCollected);
-        test("A CALL: FAILED, it is still there", PostDesk2Edges::failedLeavesWhatIsCollected);
+        test("A CALL: OUTSIDE before all else", PostDesk2Sentences::outsideGoesFirst);
+        test("A CALL: UNKNOWN, no such thing", PostDesk2Sentences::unknownWithoutSuchThing);
+        test("A CALL: UNKNOWN, no longer there", PostDesk2Sentences::unknownWhenDropped);
+        test("A CALL: UNKNOWN, of another kind", PostDesk2Sentences::unknownOfAnotherKind);
+        test("A CALL: UNKNOWN before EMPTY", PostDesk2Sentences::unknownBeforeEmpty);
+        test("A CALL: EMPTY, it wants something and nothing is collected",
+            PostDesk2Sentences::emptyWithNothingCollected);
+        test("A CALL: refused, it does not go to its part", PostDesk2Sentences::refusedDoesNotGoToItsPart);
+        test("A CALL: refused, what is collected stays", PostDesk2Sentences::refusedLeavesWhatIsCollected);
+        test("A CALL: else it goes to its part: its answer", PostDesk2Sentences::elseItGoesToItsPart);
+        test("A CALL: answered, what was collected is gone", PostDesk2Sentences::answeredTakesWhatWasCollected);
+        test("A CALL: FAILED, it is still there", PostDesk2Sentences::failedLeavesWhatIsCollected);
+        test("A CALL: what OUTSIDE leaves behind", PostDesk2Sentences::leftBehindOutside);
+        test("A CALL: what UNKNOWN leaves behind", PostDesk2Sentences::leftBehindUnknown);
+        test("A CALL: what EMPTY leaves behind", PostDesk2Sentences::leftBehindEmpty);
+        test("A CALL: what an answer leaves behind", PostDesk2Sentences::leftBehindAnAnswer);
+        test("A CALL: what FAILED leaves behind", PostDesk2Sentences::leftBehindFailed);
     }
 
     private static void theLog() {
-        test("THE LOG: at first 7", PostDesk2Edges::logIsSevenAtFirst);
-        test("THE LOG: 1000003 times L, plus 32 times the number, plus the call", PostDesk2Edges::logOfEachCall);
-        test("THE LOG: all wraps: L", PostDesk2Edges::logWraps);
-        test("THE LOG: all wraps: 32 times the number", PostDesk2Edges::logOfAnyNumber);
-        test("THE LOG: answered, plus the answer", PostDesk2Edges::logOfAnswers);
-        test("THE LOG: answered with what is a code elsewhere", PostDesk2Edges::logOfAnswersThatAreCodes);
-        test("THE LOG: refused, less 1", PostDesk2Edges::logOfRefusals);
-        test("THE LOG: failed, less 1 and less the kind", PostDesk2Edges::logOfFailures);
-        test("THE LOG: OUTSIDE is not in it", PostDesk2Edges::logHasNoOutside);
-        test("THE LOG: nothing but call() is in it", PostDesk2Edges::logHasCallsAlone);
+        test("THE LOG: it has each call() that was not OUTSIDE", PostDesk2Sentences::logHasEachCall);
+        test("THE LOG: at first 7", PostDesk2Sentences::logIsSevenAtFirst);
+        test("THE LOG: 1000003 times L, plus 32 times the number, plus the call", PostDesk2Sentences::logOfEachCall);
+        test("THE LOG: all wraps: L", PostDesk2Sentences::logWraps);
+        test("THE LOG: all wraps: 32 times the number", PostDesk2Sentences::logOfAnyNumber);
+        test("THE LOG: answered, plus the answer", PostDesk2Sentences::logOfAnswers);
+        test("THE LOG: answered with what is a code elsewhere", PostDesk2Sentences::logOfAnswersThatAreCodes);
+        test("THE LOG: refused, less 1", PostDesk2Sentences::logOfRefusals);
+        test("THE LOG: failed, less 1 and less the kind", PostDesk2Sentences::logOfFailures);
+        test("THE LOG: OUTSIDE is not in it", PostDesk2Sentences::logHasNoOutside);
+        test("THE LOG: nothing but call() is in it", PostDesk2Sentences::logHasCallsAlone);
     }
 
     private static void secondDesk() {
-        test("A SECOND DESK: things made", PostDesk2Edges::secondDeskHasThingsMade);
-        test("A SECOND DESK: things dropped", PostDesk2Edges::secondDeskHasThingsDropped);
-        test("A SECOND DESK: numbers collected", PostDesk2Edges::secondDeskHasNumbersCollected);
-        test("A SECOND DESK: answers set", PostDesk2Edges::secondDeskHasAnswersSet);
-        test("A SECOND DESK: failures set", PostDesk2Edges::secondDeskHasFailuresSet);
-        test("A SECOND DESK: calls", PostDesk2Edges::secondDeskHasCalls);
-        test("A SECOND DESK: in their order", PostDesk2Edges::secondDeskKeepsTheOrder);
+        test("A SECOND DESK: things made", PostDesk2Sentences::secondDeskHasThingsMade);
+        test("A SECOND DESK: things dropped", PostDesk2Sentences::secondDeskHasThingsDropped);
+        test("A SECOND DESK: numbers collected", PostDesk2Sentences::secondDeskHasNumbersCollected);
+        test("A SECOND DESK: answers set", PostDesk2Sentences::secondDeskHasAnswersSet);
+        test("A SECOND DESK: failures set", PostDesk2Sentences::secondDeskHasFailuresSet);
+        test("A SECOND DESK: calls", PostDesk2Sentences::secondDeskHasCalls);
+        test("A SECOND DESK: in their order", PostDesk2Sentences::secondDeskKeepsTheOrder);
     }
 
     private static void promises1To5() {
-        test("Promise 1: no things", PostDesk2Edges::newDeskHasNoThings);
-        test("Promise 1: nothing collected", PostDesk2Edges::newDeskHasNothingCollected);
-        test("Promise 1: all parts answer 0 and what comes to that", PostDesk2Edges::newPartsAnswerZero);
-        test("Promise 2: how many there are", PostDesk2Edges::collectTellsHowMany);
-        test("Promise 2: ROOM, 40 are", PostDesk2Edges::collectHasRoomFor40);
-        test("Promise 2: ROOM changes nothing", PostDesk2Edges::collectWithoutRoomChangesNothing);
-        test("Promise 3: V of a call's part is v", PostDesk2Edges::answerSetsAnyValue);
-        test("Promise 3: and it fails no more", PostDesk2Edges::answerEndsFailing);
-        test("Promise 3: NONE, no such call", PostDesk2Edges::answerOfNoCall);
-        test("Promise 4: kind 1 .. 3, from now on", PostDesk2Edges::failsFromNowOn);
-        test("Promise 4: or no more (0)", PostDesk2Edges::failsNoMore);
-        test("Promise 4: NONE, no such call", PostDesk2Edges::failsOfNoCall);
-        test("Promise 4: NONE, no such kind", PostDesk2Edges::failsOfNoKind);
-        test("Promise 5: a thing more, its number", PostDesk2Edges::makeTellsTheNumber);
-        test("Promise 5: NONE, no such kind", PostDesk2Edges::makeOfNoKind);
-        test("Promise 5: ROOM, 99 of it were made", PostDesk2Edges::makeHasRoomFor99);
-        test("Promise 5: ROOM of one kind alone", PostDesk2Edges::makeHasRoomByKind);
+        test("Promise 1: no things", PostDesk2Sentences::newDeskHasNoThings);
+        test("Promise 1: nothing collected", PostDesk2Sentences::newDeskHasNothingCollected);
+        test("Promise 1: all parts answer 0 and what comes to that", PostDesk2Sentences::newPartsAnswerZero);
+        test("Promise 2: how many there are", PostDesk2Sentences::collectTellsHowMany);
+        test("Promise 2: ROOM, 40 are", PostDesk2Sentences::collectHasRoomFor40);
+        test("Promise 2: ROOM changes nothing", PostDesk2Sentences::collectWithoutRoomChangesNothing);
+        test("Promise 3: V of a call's part is v", PostDesk2Sentences::answerSetsAnyValue);
+        test("Promise 3: and it fails no more", PostDesk2Sentences::answerEndsFailing);
+        test("Promise 3: NONE, no such call", PostDesk2Sentences::answerOfNoCall);
+        test("Promise 4: kind 1 .. 3, from now on", PostDesk2Sentences::failsFromNowOn);
+        test("Promise 4: or no more (0)", PostDesk2Sentences::failsNoMore);
+        test("Promise 4: NONE, no such call", PostDesk2Sentences::failsOfNoCall);
+        test("Promise 4: NONE, no such kind", PostDesk2Sentences::failsOfNoKind);
+        test("Promise 5: a thing more, its number", PostDesk2Sentences::makeTellsTheNumber);
+        test("Promise 5: NONE, no such kind", PostDesk2Sentences::makeOfNoKind);
+        test("Promise 5: ROOM, 99 of it were made", PostDesk2Sentences::makeHasRoomFor99);
+        test("Promise 5: ROOM of one kind alone", PostDesk2Sentences::makeHasRoomByKind);
     }
 
     private static void promises6And7() {
-        test("Promise 6: any argument", PostDesk2Edges::callTakesAnyArgument);
-        test("Promise 6: any number", PostDesk2Edges::callTakesAnyNumber);
-        test("Promise 7: how many calls were answered", PostDesk2Edges::toldAnswered);
-        test("Promise 7: refused", PostDesk2Edges::toldRefused);
-        test("Promise 7: those that were OUTSIDE are not counted", PostDesk2Edges::toldCountsNoOutside);
-        test("Promise 7: failed", PostDesk2Edges::toldFailed);
-        test("Promise 7: the latest failure's kind, number and call", PostDesk2Edges::toldLatestFailure);
-        test("Promise 7: the latest failure stays the latest", PostDesk2Edges::toldLatestFailureStays);
-        test("Promise 7: 0 without one", PostDesk2Edges::toldZeroWithoutFailure);
-        test("Promise 7: how many numbers are collected", PostDesk2Edges::toldCollected);
-        test("Promise 7: 0 for another what", PostDesk2Edges::toldZeroForAnotherWhat);
-        test("Promise 7: it changes nothing", PostDesk2Edges::toldChangesNothing);
+        test("Promise 6: any argument", PostDesk2Sentences::callTakesAnyArgument);
+        test("Promise 6: any number", PostDesk2Sentences::callTakesAnyNumber);
+        test("Promise 7: how many calls were answered", PostDesk2Sentences::toldAnswered);
+        test("Promise 7: refused", PostDesk2Sentences::toldRefused);
+        test("Promise 7: those that were OUTSIDE are not counted", PostDesk2Sentences::toldCountsNoOutside);
+        test("Promise 7: failed", PostDesk2Sentences::toldFailed);
+        test("Promise 7: the latest failure's kind, number and call", PostDesk2Sentences::toldLatestFailure);
+        test("Promise 7: the latest failure stays the latest", PostDesk2Sentences::toldLatestFailureStays);
+        test("Promise 7: 0 without one", PostDesk2Sentences::toldZeroWithoutFailure);
+        test("Promise 7: how many numbers are collected", PostDesk2Sentences::toldCollected);
+        test("Promise 7: 0 for another what", PostDesk2Sentences::toldZeroForAnotherWhat);
+        test("Promise 7: it changes nothing", PostDesk2Sentences::toldChangesNothing);
     }
 
     private static void promises8To10() {
-        test("Promise 8: a thing is there no more", PostDesk2Edges::dropTakesOneThing);
-        test("Promise 8: whether it was: once", PostDesk2Edges::dropIsTrueOnce);
-        test("Promise 8: whether it was: any number", PostDesk2Edges::dropOfAnyNumber);
-        test("Promise 9: how many things of a kind are there", PostDesk2Edges::numbersFrom0To99);
-        test("Promise 9: NONE, no such kind", PostDesk2Edges::numbersOfNoKind);
-        test("Promise 10: whether a thing is there: first and last", PostDesk2Edges::isThereFirstAndLast);
-        test("Promise 10: whether a thing is there: any number", PostDesk2Edges::isThereOfAnyNumber);
-        test("Promise 10: it changes nothing", PostDesk2Edges::isThereChangesNothing);
+        test("Promise 8: a thing is there no more", PostDesk2Sentences::dropTakesOneThing);
+        test("Promise 8: whether it was: once", PostDesk2Sentences::dropIsTrueOnce);
+        test("Promise 8: whether it was: any number", PostDesk2Sentences::dropOfAnyNumber);
+        test("Promise 9: how many things of a kind are there", PostDesk2Sentences::numbersFrom0To99);
+        test("Promise 9: NONE, no such kind", PostDesk2Sentences::numbersOfNoKind);
+        test("Promise 10: whether a thing is there: first and last", PostDesk2Sentences::isThereFirstAndLast);
+        test("Promise 10: whether a thing is there: any number", PostDesk2Sentences::isThereOfAnyNumber);
+        test("Promise 10: it changes nothing", PostDesk2Sentences::isThereChangesNothing);
     }
 
     private static void promises11And12() {
-        test("Promise 11: what a CALL would be told", PostDesk2Edges::againTellsAsCall);
-        test("Promise 11: any argument and number", PostDesk2Edges::againOfAny);
-        test("Promise 11: nothing changes here", PostDesk2Edges::againChangesNothing);
-        test("Promise 12: L behind that CALL", PostDesk2Edges::logTellsAsCall);
-        test("Promise 12: any argument and number", PostDesk2Edges::logOfAny);
-        test("Promise 12: nothing changes here", PostDesk2Edges::logChangesNothing);
+        test("Promise 11: what a CALL would be told", PostDesk2Sentences::againTellsAsCall);
+        test("Promise 11: any argument and number", PostDesk2Sentences::againOfAny);
+        test("Promise 11: nothing changes here", PostDesk2Sentences::againChangesNothing);
+        test("Promise 12: L behind that CALL", PostDesk2Sentences::logTellsAsCall);
+        test("Promise 12: any argument and number", PostDesk2Sentences::logOfAny);
+        test("Promise 12: nothing changes here", PostDesk2Sentences::logChangesNothing);
     }
 
     // What the tests are made of.
@@ -372,7 +390,131 @@ public final class PostDesk2Edges {
         }
     }
 
-    // What it is: at most 512 calls.
+    /** What told(0) .. told(7) tell of a busy desk. */
+    private static long[] busyTold() {
+        return new long[] {1, 2, 1, 2, 4003, 14, 2, BUSY_LOG};
+    }
+
+    /** A busy desk with nothing collected. */
+    private static Desk emptiedDesk() {
+        Desk desk = busyDesk();
+        desk.call(0, 1, 0);
+        return desk;
+    }
+
+    private static long[] emptiedTold() {
+        return new long[] {2, 2, 1, 2, 4003, 14, 0, loggedAnswer(BUSY_LOG, 0, 1, 1 + BUSY_DIGEST)};
+    }
+
+    /**
+     * All that is told of a desk that was busy, where told(0) .. told(7) are due to tell this: a call changes no thing,
+     * no V and no failing part, so all else follows from whether something is collected still, and from L.
+     */
+    private static void dueLeft(String what, Desk desk, long[] told) {
+        for (int i = 0; i < 8; i++) {
+            due(what + ", then told(" + i + ")", desk.told(i), told[i]);
+        }
+        for (int kind = 0; kind < 10; kind++) {
+            due(what + ", then numbers(" + kind + ")", desk.numbers(kind), 2);
+            for (int count = 0; count <= 4; count++) {
+                int number = kind * 1000 + count;
+                due(what + ", then isThere(" + number + ")", desk.isThere(number), count == 1 || count == 3);
+            }
+        }
+        for (int call = -1; call <= 20; call++) {
+            for (int count = 1; count <= 3; count++) {
+                dueLeftOfCall(what, desk, call, Math.floorMod(call, 10) * 1000 + count, told);
+            }
+        }
+    }
+
+    private static void dueLeftOfCall(String what, Desk desk, int call, int number, long[] told) {
+        int failure = call == 3 ? 1 : call == 14 ? 2 : call == 5 ? 3 : 0;
+        long reply;
+        long logged;
+        if (call < 0 || call > 19) {
+            reply = PostDesk2.OUTSIDE;
+            logged = told[7];
+        } else if (number % 1000 == 2 || (call > 9 && told[6] == 0)) {
+            reply = number % 1000 == 2 ? PostDesk2.UNKNOWN : PostDesk2.EMPTY;
+            logged = loggedRefusal(told[7], call, number);
+        } else if (failure != 0) {
+            reply = PostDesk2.FAILED;
+            logged = loggedFailure(told[7], call, number, failure);
+        } else {
+            reply = 100 * call + 1 + 9 + (told[6] == 0 ? 0 : BUSY_DIGEST);
+            logged = loggedAnswer(told[7], call, number, reply);
+        }
+        due(what + ", then again(" + call + ", " + number + ", 9)", desk.again(call, number, 9), reply);
+        due(what + ", then log(" + call + ", " + number + ", 9)", desk.log(call, number, 9), logged);
+    }
+
+    // What it is.
+
+    private static void numbersComeOnce() {
+        Desk desk = new Desk();
+        Set<Integer> seen = new HashSet<>();
+        for (int i = 0; i < 20; i++) {
+            for (int kind = 0; kind < 10; kind++) {
+                int number = desk.make(kind);
+                due("make(" + kind + ") answers a new number", seen.add(number), true);
+                if (i % 2 == 0) {
+                    desk.drop(number);
+                }
+            }
+        }
+        due("how many numbers", seen.size(), 200);
+    }
+
+    private static void callsGoOrAreRefused() {
+        Desk desk = deskWithOneOfEach();
+        desk.answer(6, 600);
+        due("to its part", desk.call(6, 6001, 1), 601);
+        due("refused", desk.call(6, 7001, 1), PostDesk2.UNKNOWN);
+        due("refused too", desk.call(16, 6001, 1), PostDesk2.EMPTY);
+        due("to its part once more", desk.call(6, 6001, 2), 602);
+        due("how many went", desk.told(0), 2);
+        due("how many were refused", desk.told(1), 2);
+    }
+
+    private static void collectedForTheNextCall() {
+        for (int call = 0; call < 20; call++) {
+            Desk desk = deskWithOneOfEach();
+            // No byte, though the document's first line speaks of bytes: promise 2 takes any long.
+            desk.collect(300);
+            desk.collect(-70000);
+            due("the next call", desk.call(call, firstFor(call), 0), 31 * 300 - 70000);
+            due("the one behind it", desk.call(call % 10, firstFor(call), 0), 0);
+        }
+    }
+
+    private static void failuresAreCaughtAndTold() {
+        for (int call = 0; call < 20; call++) {
+            for (int kind = 1; kind <= 3; kind++) {
+                Desk desk = deskWithOneOfEach();
+                desk.collect(1);
+                desk.fails(call, kind);
+                try {
+                    due("again(" + call + ", ..)", desk.again(call, firstFor(call), 0), PostDesk2.FAILED);
+                    desk.log(call, firstFor(call), 0);
+                    due("call(" + call + ", ..)", desk.call(call, firstFor(call), 0), PostDesk2.FAILED);
+                } catch (Throwable e) {
+                    wrong++;
+                    System.out.println(sentence + ": a failure by " + kind + " reached the caller: " + e);
+                }
+                dueLatest(desk, kind, firstFor(call), call);
+            }
+        }
+    }
+
+    private static void sameActsOnASecondDesk() {
+        for (int[] asked : ASKED) {
+            Desk second = busyDesk();
+            long reply = second.call(asked[0], asked[1], 5);
+            due("again(" + asked[0] + ", " + asked[1] + ")", busyDesk().again(asked[0], asked[1], 5), reply);
+            due("log(" + asked[0] + ", " + asked[1] + ")", busyDesk().log(asked[0], asked[1], 5), second.told(7));
+        }
+    }
 
     private static void answeredUpTo512() {
         Desk desk = new Desk();
@@ -601,6 +743,35 @@ public final class PostDesk2Edges {
 
     // PARTS.
 
+    private static void eachCallHasItsPart() {
+        for (int call = 0; call < 20; call++) {
+            Desk desk = deskWithOneOfEach();
+            desk.answer(call, 500);
+            for (int other = 0; other < 20; other++) {
+                desk.collect(0);
+                due("V of part " + other, desk.call(other, firstFor(other), 0), other == call ? 500 : 0);
+            }
+            desk.fails(call, 2);
+            for (int other = 0; other < 20; other++) {
+                desk.collect(0);
+                long want = other == call ? PostDesk2.FAILED : 0;
+                due("part " + other + " where " + call + " fails", desk.call(other, firstFor(other), 0), want);
+            }
+        }
+    }
+
+    private static void partsAnswerTheSum() {
+        for (int call = 0; call < 20; call++) {
+            Desk desk = deskWithOneOfEach();
+            desk.answer(call, 7000);
+            desk.collect(2);
+            desk.collect(3);
+            due("call(" + call + ", ..)", desk.call(call, firstFor(call), 400), 7000 + 400 + 31 * 2 + 3);
+            desk.collect(0);
+            due("V stays, the argument does not", desk.call(call, firstFor(call), 50), 7000 + 50);
+        }
+    }
+
     private static void valueIsZeroAtFirst() {
         Desk desk = deskWithOneOfEach();
         for (int call = 0; call < 20; call++) {
@@ -826,6 +997,19 @@ public final class PostDesk2Edges {
         due("the digest behind EMPTY", desk.call(10, 1, 0), 9);
     }
 
+    private static void elseItGoesToItsPart() {
+        for (int call = 0; call < 20; call++) {
+            if (call == 3 || call == 14 || call == 5) {
+                continue;
+            }
+            for (int count = 1; count <= 3; count += 2) {
+                int number = call % 10 * 1000 + count;
+                due("call(" + call + ", " + number + ")", busyDesk().call(call, number, 6),
+                    100 * call + 1 + 6 + BUSY_DIGEST);
+            }
+        }
+    }
+
     private static void answeredTakesWhatWasCollected() {
         for (int call = 0; call < 20; call++) {
             for (int many = 1; many <= 40; many += 13) {
@@ -862,7 +1046,105 @@ public final class PostDesk2Edges {
         }
     }
 
+    private static void leftBehindOutside() {
+        dueLeft("before it", busyDesk(), busyTold());
+        dueLeft("before it, with nothing collected", emptiedDesk(), emptiedTold());
+        for (int call : NO_CALLS) {
+            for (int number : new int[] {1, 2, MOST}) {
+                Desk desk = busyDesk();
+                desk.call(call, number, 8);
+                dueLeft("call(" + call + ", " + number + ")", desk, busyTold());
+            }
+            Desk emptied = emptiedDesk();
+            emptied.call(call, 1, 8);
+            dueLeft("call(" + call + ", 1) with nothing collected", emptied, emptiedTold());
+        }
+    }
+
+    private static void leftBehindUnknown() {
+        for (int call = 0; call < 20; call++) {
+            int kind = call % 10 * 1000;
+            int other = (call + 1) % 10 * 1000;
+            for (int number : new int[] {kind + 2, kind + 4, other + 1, kind, 10001, -1, LEAST, MOST}) {
+                Desk desk = busyDesk();
+                long[] told = busyTold();
+                desk.call(call, number, 8);
+                told[1]++;
+                told[7] = loggedRefusal(BUSY_LOG, call, number);
+                dueLeft("call(" + call + ", " + number + ")", desk, told);
+            }
+        }
+    }
+
+    private static void leftBehindEmpty() {
+        for (int call = 10; call < 20; call++) {
+            Desk desk = emptiedDesk();
+            long[] told = emptiedTold();
+            desk.call(call, firstFor(call), 8);
+            told[1]++;
+            told[7] = loggedRefusal(told[7], call, firstFor(call));
+            dueLeft("call(" + call + ", ..)", desk, told);
+        }
+    }
+
+    private static void leftBehindAnAnswer() {
+        for (int call = 0; call < 20; call++) {
+            if (call == 3 || call == 14 || call == 5) {
+                continue;
+            }
+            Desk desk = busyDesk();
+            long[] told = busyTold();
+            desk.call(call, firstFor(call), 8);
+            told[0]++;
+            told[6] = 0;
+            told[7] = loggedAnswer(BUSY_LOG, call, firstFor(call), 100 * call + 1 + 8 + BUSY_DIGEST);
+            dueLeft("call(" + call + ", ..)", desk, told);
+        }
+        Desk emptied = emptiedDesk();
+        long[] told = emptiedTold();
+        emptied.call(7, 7003, 8);
+        told[0]++;
+        told[7] = loggedAnswer(told[7], 7, 7003, 700 + 1 + 8);
+        dueLeft("call(7, 7003) with nothing collected", emptied, told);
+    }
+
+    private static void leftBehindFailed() {
+        int[][] failing = {{3, 3001, 1}, {3, 3003, 1}, {14, 4001, 2}, {14, 4003, 2}, {5, 5001, 3}, {5, 5003, 3}};
+        for (int[] one : failing) {
+            Desk desk = busyDesk();
+            long[] told = {1, 2, 2, one[2], one[1], one[0], 2, loggedFailure(BUSY_LOG, one[0], one[1], one[2])};
+            desk.call(one[0], one[1], 8);
+            dueLeft("call(" + one[0] + ", " + one[1] + ")", desk, told);
+        }
+        Desk emptied = emptiedDesk();
+        long[] told = emptiedTold();
+        emptied.call(5, 5001, 8);
+        told[2]++;
+        told[3] = 3;
+        told[4] = 5001;
+        told[5] = 5;
+        told[7] = loggedFailure(told[7], 5, 5001, 3);
+        dueLeft("call(5, 5001) with nothing collected", emptied, told);
+    }
+
     // THE LOG.
+
+    private static void logHasEachCall() {
+        Desk desk = busyDesk();
+        desk.call(0, 3, 4);
+        long logged = loggedAnswer(BUSY_LOG, 0, 3, 1 + 4 + BUSY_DIGEST);
+        desk.call(20, 3, 4);
+        desk.call(5, 5001, 4);
+        logged = loggedFailure(logged, 5, 5001, 3);
+        desk.call(-1, 3, 4);
+        desk.call(19, 9001, 4);
+        logged = loggedRefusal(logged, 19, 9001);
+        desk.call(19, 9002, 4);
+        logged = loggedRefusal(logged, 19, 9002);
+        desk.call(9, 9001, 4);
+        logged = loggedAnswer(logged, 9, 9001, 901 + 4);
+        due("L of them all", desk.told(7), logged);
+    }
 
     private static void logIsSevenAtFirst() {
         due("told(7)", new Desk().told(7), 7);
@@ -1525,7 +1807,7 @@ public final class PostDesk2Edges {
 
     private static void toldZeroForAnotherWhat() {
         Desk desk = busyDesk();
-        long[] told = {1, 2, 1, 2, 4003, 14, 2, BUSY_LOG};
+        long[] told = busyTold();
         for (int what = 0; what < 8; what++) {
             due("told(" + what + ")", desk.told(what), told[what]);
         }
@@ -1681,13 +1963,6 @@ public final class PostDesk2Edges {
         {0, 1}, {0, 3}, {19, 9001}, {10, 3}, {-1, 1}, {20, 1}, {0, 2}, {0, 4}, {10, 1001}, {3, 3001}, {14, 4001},
         {5, 5003}
     };
-
-    /** A busy desk with nothing collected. */
-    private static Desk emptiedDesk() {
-        Desk desk = busyDesk();
-        desk.call(0, 1, 0);
-        return desk;
-    }
 
     private static void againTellsAsCall() {
         long[] due = {
