@@ -110,6 +110,7 @@ public final class PostDesk2Sentences {
         promises6And7();
         promises8To10();
         promises11And12();
+        leftBehindOtherActs();
         System.out.println(tests + " sentences, " + (wrong == 0 ? "all hold" : wrong + " answers are not as due"));
         if (wrong != 0) {
             System.exit(1);
@@ -253,6 +254,15 @@ public final class PostDesk2Sentences {
         test("Promise 12: L behind that CALL", PostDesk2Sentences::logTellsAsCall);
         test("Promise 12: any argument and number", PostDesk2Sentences::logOfAny);
         test("Promise 12: nothing changes here", PostDesk2Sentences::logChangesNothing);
+    }
+
+    private static void leftBehindOtherActs() {
+        test("Promise 2: what collect leaves behind", PostDesk2Sentences::leftBehindCollect);
+        test("Promise 3: what answer leaves behind", PostDesk2Sentences::leftBehindAnswer);
+        test("Promise 4: what fails leaves behind", PostDesk2Sentences::leftBehindFails);
+        test("Promise 5: what make leaves behind", PostDesk2Sentences::leftBehindMake);
+        test("Promise 8: what drop leaves behind", PostDesk2Sentences::leftBehindDrop);
+        test("Promises 2 to 5 and 8: what a refused act leaves behind", PostDesk2Sentences::leftBehindRefusedActs);
     }
 
     // What the tests are made of.
@@ -402,48 +412,80 @@ public final class PostDesk2Sentences {
         return desk;
     }
 
-    private static long[] emptiedTold() {
-        return new long[] {2, 2, 1, 2, 4003, 14, 0, loggedAnswer(BUSY_LOG, 0, 1, 1 + BUSY_DIGEST)};
+    /** All that there is to a desk, as it is due: a new one is a busy desk's. */
+    private static final class Left {
+        final long[] told = busyTold();
+        final long[] values = new long[20];
+        final int[] failures = new int[20];
+        final Set<Integer> things = new HashSet<>();
+        long digest = BUSY_DIGEST;
+
+        Left() {
+            for (int call = 0; call < 20; call++) {
+                values[call] = 100 * call + 1;
+            }
+            failures[3] = 1;
+            failures[14] = 2;
+            failures[5] = 3;
+            for (int kind = 0; kind < 10; kind++) {
+                things.add(kind * 1000 + 1);
+                things.add(kind * 1000 + 3);
+            }
+        }
+
+        int thingsOf(int kind) {
+            int count = 0;
+            for (int number : things) {
+                count += number / 1000 == kind ? 1 : 0;
+            }
+            return count;
+        }
     }
 
-    /**
-     * All that is told of a desk that was busy, where told(0) .. told(7) are due to tell this: a call changes no thing,
-     * no V and no failing part, so all else follows from whether something is collected still, and from L.
-     */
-    private static void dueLeft(String what, Desk desk, long[] told) {
+    /** What is due of an emptied desk. */
+    private static Left emptiedLeft() {
+        Left left = new Left();
+        left.told[0] = 2;
+        left.told[6] = 0;
+        left.told[7] = loggedAnswer(BUSY_LOG, 0, 1, 1 + BUSY_DIGEST);
+        left.digest = 0;
+        return left;
+    }
+
+    /** All that told, numbers, isThere, again and log tell of a desk must be as it is due. */
+    private static void dueLeft(String what, Desk desk, Left left) {
         for (int i = 0; i < 8; i++) {
-            due(what + ", then told(" + i + ")", desk.told(i), told[i]);
+            due(what + ", then told(" + i + ")", desk.told(i), left.told[i]);
         }
         for (int kind = 0; kind < 10; kind++) {
-            due(what + ", then numbers(" + kind + ")", desk.numbers(kind), 2);
-            for (int count = 0; count <= 4; count++) {
-                int number = kind * 1000 + count;
-                due(what + ", then isThere(" + number + ")", desk.isThere(number), count == 1 || count == 3);
+            due(what + ", then numbers(" + kind + ")", desk.numbers(kind), left.thingsOf(kind));
+            for (int number = kind * 1000; number <= kind * 1000 + 5; number++) {
+                due(what + ", then isThere(" + number + ")", desk.isThere(number), left.things.contains(number));
             }
         }
         for (int call = -1; call <= 20; call++) {
-            for (int count = 1; count <= 3; count++) {
-                dueLeftOfCall(what, desk, call, Math.floorMod(call, 10) * 1000 + count, told);
+            for (int count = 1; count <= 4; count++) {
+                dueLeftOfCall(what, desk, call, Math.floorMod(call, 10) * 1000 + count, left);
             }
         }
     }
 
-    private static void dueLeftOfCall(String what, Desk desk, int call, int number, long[] told) {
-        int failure = call == 3 ? 1 : call == 14 ? 2 : call == 5 ? 3 : 0;
+    private static void dueLeftOfCall(String what, Desk desk, int call, int number, Left left) {
+        boolean isOutside = call < 0 || call > 19;
+        boolean isKnown = left.things.contains(number);
+        long logged = left.told[7];
         long reply;
-        long logged;
-        if (call < 0 || call > 19) {
+        if (isOutside) {
             reply = PostDesk2.OUTSIDE;
-            logged = told[7];
-        } else if (number % 1000 == 2 || (call > 9 && told[6] == 0)) {
-            reply = number % 1000 == 2 ? PostDesk2.UNKNOWN : PostDesk2.EMPTY;
-            logged = loggedRefusal(told[7], call, number);
-        } else if (failure != 0) {
+        } else if (!isKnown || (call > 9 && left.told[6] == 0)) {
+            reply = isKnown ? PostDesk2.EMPTY : PostDesk2.UNKNOWN;
+            logged = loggedRefusal(logged, call, number);
+        } else if (left.failures[call] != 0) {
             reply = PostDesk2.FAILED;
-            logged = loggedFailure(told[7], call, number, failure);
+            logged = loggedFailure(logged, call, number, left.failures[call]);
         } else {
-            reply = 100 * call + 1 + 9 + (told[6] == 0 ? 0 : BUSY_DIGEST);
-            logged = loggedAnswer(told[7], call, number, reply);
+            reply = answerOf(left.values[call], 9, left.digest);
+            logged = loggedAnswer(logged, call, number, reply);
         }
         due(what + ", then again(" + call + ", " + number + ", 9)", desk.again(call, number, 9), reply);
         due(what + ", then log(" + call + ", " + number + ", 9)", desk.log(call, number, 9), logged);
@@ -1047,17 +1089,17 @@ public final class PostDesk2Sentences {
     }
 
     private static void leftBehindOutside() {
-        dueLeft("before it", busyDesk(), busyTold());
-        dueLeft("before it, with nothing collected", emptiedDesk(), emptiedTold());
+        dueLeft("before it", busyDesk(), new Left());
+        dueLeft("before it, with nothing collected", emptiedDesk(), emptiedLeft());
         for (int call : NO_CALLS) {
             for (int number : new int[] {1, 2, MOST}) {
                 Desk desk = busyDesk();
                 desk.call(call, number, 8);
-                dueLeft("call(" + call + ", " + number + ")", desk, busyTold());
+                dueLeft("call(" + call + ", " + number + ")", desk, new Left());
             }
             Desk emptied = emptiedDesk();
             emptied.call(call, 1, 8);
-            dueLeft("call(" + call + ", 1) with nothing collected", emptied, emptiedTold());
+            dueLeft("call(" + call + ", 1) with nothing collected", emptied, emptiedLeft());
         }
     }
 
@@ -1067,11 +1109,11 @@ public final class PostDesk2Sentences {
             int other = (call + 1) % 10 * 1000;
             for (int number : new int[] {kind + 2, kind + 4, other + 1, kind, 10001, -1, LEAST, MOST}) {
                 Desk desk = busyDesk();
-                long[] told = busyTold();
+                Left left = new Left();
                 desk.call(call, number, 8);
-                told[1]++;
-                told[7] = loggedRefusal(BUSY_LOG, call, number);
-                dueLeft("call(" + call + ", " + number + ")", desk, told);
+                left.told[1]++;
+                left.told[7] = loggedRefusal(BUSY_LOG, call, number);
+                dueLeft("call(" + call + ", " + number + ")", desk, left);
             }
         }
     }
@@ -1079,52 +1121,59 @@ public final class PostDesk2Sentences {
     private static void leftBehindEmpty() {
         for (int call = 10; call < 20; call++) {
             Desk desk = emptiedDesk();
-            long[] told = emptiedTold();
+            Left left = emptiedLeft();
             desk.call(call, firstFor(call), 8);
-            told[1]++;
-            told[7] = loggedRefusal(told[7], call, firstFor(call));
-            dueLeft("call(" + call + ", ..)", desk, told);
+            left.told[1]++;
+            left.told[7] = loggedRefusal(left.told[7], call, firstFor(call));
+            dueLeft("call(" + call + ", ..)", desk, left);
         }
     }
 
     private static void leftBehindAnAnswer() {
         for (int call = 0; call < 20; call++) {
-            if (call == 3 || call == 14 || call == 5) {
+            Left left = new Left();
+            if (left.failures[call] != 0) {
                 continue;
             }
             Desk desk = busyDesk();
-            long[] told = busyTold();
             desk.call(call, firstFor(call), 8);
-            told[0]++;
-            told[6] = 0;
-            told[7] = loggedAnswer(BUSY_LOG, call, firstFor(call), 100 * call + 1 + 8 + BUSY_DIGEST);
-            dueLeft("call(" + call + ", ..)", desk, told);
+            left.told[0]++;
+            left.told[6] = 0;
+            left.told[7] = loggedAnswer(BUSY_LOG, call, firstFor(call), 100 * call + 1 + 8 + BUSY_DIGEST);
+            left.digest = 0;
+            dueLeft("call(" + call + ", ..)", desk, left);
         }
         Desk emptied = emptiedDesk();
-        long[] told = emptiedTold();
+        Left left = emptiedLeft();
         emptied.call(7, 7003, 8);
-        told[0]++;
-        told[7] = loggedAnswer(told[7], 7, 7003, 700 + 1 + 8);
-        dueLeft("call(7, 7003) with nothing collected", emptied, told);
+        left.told[0]++;
+        left.told[7] = loggedAnswer(left.told[7], 7, 7003, 700 + 1 + 8);
+        dueLeft("call(7, 7003) with nothing collected", emptied, left);
+    }
+
+    private static void failedLeft(Left left, int call, int number) {
+        int kind = left.failures[call];
+        left.told[2]++;
+        left.told[3] = kind;
+        left.told[4] = number;
+        left.told[5] = call;
+        left.told[7] = loggedFailure(left.told[7], call, number, kind);
     }
 
     private static void leftBehindFailed() {
-        int[][] failing = {{3, 3001, 1}, {3, 3003, 1}, {14, 4001, 2}, {14, 4003, 2}, {5, 5001, 3}, {5, 5003, 3}};
+        int[][] failing = {{3, 3001}, {3, 3003}, {14, 4001}, {14, 4003}, {5, 5001}, {5, 5003}};
         for (int[] one : failing) {
             Desk desk = busyDesk();
-            long[] told = {1, 2, 2, one[2], one[1], one[0], 2, loggedFailure(BUSY_LOG, one[0], one[1], one[2])};
+            Left left = new Left();
             desk.call(one[0], one[1], 8);
-            dueLeft("call(" + one[0] + ", " + one[1] + ")", desk, told);
+            failedLeft(left, one[0], one[1]);
+            dueLeft("call(" + one[0] + ", " + one[1] + ")", desk, left);
         }
         Desk emptied = emptiedDesk();
-        long[] told = emptiedTold();
+        Left left = emptiedLeft();
         emptied.call(5, 5001, 8);
-        told[2]++;
-        told[3] = 3;
-        told[4] = 5001;
-        told[5] = 5;
-        told[7] = loggedFailure(told[7], 5, 5001, 3);
-        dueLeft("call(5, 5001) with nothing collected", emptied, told);
+        failedLeft(left, 5, 5001);
+        dueLeft("call(5, 5001) with nothing collected", emptied, left);
     }
 
     // THE LOG.
@@ -2075,5 +2124,103 @@ public final class PostDesk2Sentences {
         Desk full = fullDesk();
         full.log(10, 1, 5);
         dueSame("log with 40 collected", full, fullDesk());
+    }
+
+    // What acts other than a call leave behind.
+
+    private static void leftBehindCollect() {
+        for (long v : ANY_LONGS) {
+            Desk desk = busyDesk();
+            Left left = new Left();
+            desk.collect(v);
+            left.told[6] = 3;
+            left.digest = answerOf(0, 0, 11, -12, v);
+            dueLeft("collect(" + v + ")", desk, left);
+        }
+        Desk emptied = emptiedDesk();
+        Left left = emptiedLeft();
+        emptied.collect(0);
+        left.told[6] = 1;
+        dueLeft("collect(0) with nothing collected", emptied, left);
+    }
+
+    private static void leftBehindAnswer() {
+        for (int call = 0; call < 20; call++) {
+            for (long v : new long[] {0, 100 * call + 1, LONG_LEAST, PostDesk2.EMPTY, PostDesk2.FAILED}) {
+                Desk desk = busyDesk();
+                Left left = new Left();
+                desk.answer(call, v);
+                left.values[call] = v;
+                left.failures[call] = 0;
+                dueLeft("answer(" + call + ", " + v + ")", desk, left);
+            }
+        }
+    }
+
+    private static void leftBehindFails() {
+        for (int call = 0; call < 20; call++) {
+            for (int kind = 0; kind <= 3; kind++) {
+                Desk desk = busyDesk();
+                Left left = new Left();
+                desk.fails(call, kind);
+                left.failures[call] = kind;
+                dueLeft("fails(" + call + ", " + kind + ")", desk, left);
+            }
+        }
+    }
+
+    private static void leftBehindMake() {
+        for (int kind = 0; kind < 10; kind++) {
+            Desk desk = busyDesk();
+            Left left = new Left();
+            desk.make(kind);
+            left.things.add(kind * 1000 + 4);
+            dueLeft("make(" + kind + ")", desk, left);
+        }
+    }
+
+    private static void leftBehindDrop() {
+        for (int kind = 0; kind < 10; kind++) {
+            for (int count = 1; count <= 3; count += 2) {
+                Desk desk = busyDesk();
+                Left left = new Left();
+                desk.drop(kind * 1000 + count);
+                left.things.remove(kind * 1000 + count);
+                dueLeft("drop(" + (kind * 1000 + count) + ")", desk, left);
+            }
+        }
+        // The thing of the latest failure: what is told of that stays.
+        Desk desk = busyDesk();
+        desk.drop(4001);
+        desk.drop(4003);
+        Left left = new Left();
+        left.things.remove(4001);
+        left.things.remove(4003);
+        dueLeft("drop of both", desk, left);
+    }
+
+    private static void leftBehindRefusedActs() {
+        Desk desk = busyDesk();
+        desk.answer(-1, 8);
+        desk.answer(20, 8);
+        desk.fails(-1, 0);
+        desk.fails(20, 1);
+        desk.fails(3, -1);
+        desk.fails(3, 4);
+        desk.make(-1);
+        desk.make(10);
+        desk.drop(2);
+        desk.drop(4);
+        desk.drop(10001);
+        desk.drop(-1);
+        dueLeft("refused acts", desk, new Left());
+        Desk full = fullDesk();
+        Left left = new Left();
+        for (int i = 3; i <= 40; i++) {
+            left.digest = 31 * left.digest + i;
+        }
+        left.told[6] = 40;
+        full.collect(8);
+        dueLeft("collect without room", full, left);
     }
 }
