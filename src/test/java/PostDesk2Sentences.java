@@ -32,7 +32,10 @@ public final class PostDesk2Sentences {
         LONG_LEAST, LONG_LEAST + 1, LEAST - 1L, LEAST, -2, -1, 0, 1, 2, MOST, MOST + 1L, LONG_MOST - 1, LONG_MOST
     };
 
+    private static final int FAULTS_TOLD_A_SENTENCE = 20;
+
     private static int wrong = 0;
+    private static int wrongBefore = 0;
     private static int tests = 0;
     private static String sentence = "";
 
@@ -269,19 +272,26 @@ public final class PostDesk2Sentences {
 
     private static void test(String name, Test test) {
         sentence = name;
+        wrongBefore = wrong;
         tests++;
         try {
             test.run();
         } catch (RuntimeException e) {
-            wrong++;
-            System.out.println(sentence + ": " + e);
+            fault(e.toString());
+        }
+    }
+
+    /** Of one sentence the first faults alone are told: some tests hold thousands of answers against it. */
+    private static void fault(String what) {
+        wrong++;
+        if (wrong - wrongBefore <= FAULTS_TOLD_A_SENTENCE) {
+            System.out.println(sentence + ": " + what);
         }
     }
 
     private static void due(String what, long got, long want) {
         if (got != want) {
-            wrong++;
-            System.out.println(sentence + ": " + what + " answered " + got + ", due is " + want);
+            fault(what + " answered " + got + ", due is " + want);
         }
     }
 
@@ -541,8 +551,7 @@ public final class PostDesk2Sentences {
                     desk.log(call, firstFor(call), 0);
                     due("call(" + call + ", ..)", desk.call(call, firstFor(call), 0), PostDesk2.FAILED);
                 } catch (Throwable e) {
-                    wrong++;
-                    System.out.println(sentence + ": a failure by " + kind + " reached the caller: " + e);
+                    fault("a failure by " + kind + " reached the caller: " + e);
                 }
                 dueLatest(desk, kind, firstFor(call), call);
             }
@@ -1269,18 +1278,26 @@ public final class PostDesk2Sentences {
         long[] codes = {PostDesk2.UNKNOWN, PostDesk2.OUTSIDE, PostDesk2.EMPTY, PostDesk2.FAILED, PostDesk2.NONE,
             PostDesk2.ROOM};
         for (long code : codes) {
-            Desk desk = deskWithOneOfEach();
-            desk.collect(0);
-            long logged = loggedAnswer(7, 13, 3001, code);
-            due("again", desk.again(13, 3001, code), code);
-            due("log", desk.log(13, 3001, code), logged);
-            due("call", desk.call(13, 3001, code), code);
-            due("L", desk.told(7), logged);
-            due("answered", desk.told(0), 1);
-            due("refused", desk.told(1), 0);
-            due("failed", desk.told(2), 0);
-            due("collected", desk.told(6), 0);
+            dueAnswered(0, code, 0);
+            dueAnswered(code, 0, 0);
+            dueAnswered(0, 0, code);
         }
+    }
+
+    private static void dueAnswered(long v, long a, long collected) {
+        Desk desk = deskWithOneOfEach();
+        desk.answer(13, v);
+        desk.collect(collected);
+        long answer = v + a + collected;
+        long logged = loggedAnswer(7, 13, 3001, answer);
+        due("again", desk.again(13, 3001, a), answer);
+        due("log", desk.log(13, 3001, a), logged);
+        due("call", desk.call(13, 3001, a), answer);
+        due("L", desk.told(7), logged);
+        due("answered", desk.told(0), 1);
+        due("refused", desk.told(1), 0);
+        due("failed", desk.told(2), 0);
+        due("collected", desk.told(6), 0);
     }
 
     private static void logOfRefusals() {
